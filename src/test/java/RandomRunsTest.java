@@ -1,0 +1,147 @@
+import java.util.Random;
+
+/** Long runs of calls by fixed seeds, each answer compared with the model's; promises 1 to 17 together. */
+public final class RandomRunsTest {
+    private static final int RUNS = 4000;
+    private static final int CALLS = 512;
+    private static final Check check = new Check();
+    private static final int[] SIZES = {4, 4, 4, 5, 6, 7, 8, 10, 12, 20, 39, 40, 41, 2};
+
+    private final Random random;
+    private final BuildDisk x;
+    private final Model m;
+    private final int keys;
+    private final boolean pokes;
+    private final int syncWeight;
+
+    private RandomRunsTest(int seed) {
+        random = new Random(seed);
+        int size = SIZES[random.nextInt(SIZES.length)];
+        x = new BuildDisk(size);
+        m = new Model(size);
+        keys = 1 + random.nextInt(64);
+        pokes = random.nextInt(3) != 0;
+        syncWeight = random.nextInt(12);
+    }
+
+    public static void main(String[] args) {
+        for (int seed = 0; seed < RUNS && !check.anyWrong(); seed++) {
+            check.about("seed " + seed);
+            new RandomRunsTest(seed).run();
+        }
+        check.end();
+    }
+
+    private void run() {
+        for (int i = 0; i < CALLS && !check.anyWrong(); i++) {
+            if (m.about(0) == 0 && random.nextInt(3) != 0) {
+                starts();
+            } else {
+                call(random.nextInt(100 + syncWeight));
+            }
+        }
+    }
+
+    private void call(int dice) {
+        if (dice < 26) {
+            rows();
+        } else if (dice < 40) {
+            asks();
+        } else if (dice < 52) {
+            compacts();
+        } else if (dice < 60) {
+            locks();
+        } else if (dice < 63) {
+            starts();
+        } else if (dice < 66) {
+            cuts();
+        } else if (dice < 70) {
+            pokesOrEditions();
+        } else if (dice < 84) {
+            looks();
+        } else if (dice < 98) {
+            sectors();
+        } else {
+            check.due("sync()", x.sync(), m.sync());
+        }
+    }
+
+    private int key() {
+        return random.nextInt(30) == 0 ? random.nextInt(70) - 3 : random.nextInt(keys);
+    }
+
+    private void starts() {
+        check.due("start()", x.start(), m.start());
+    }
+
+    private void rows() {
+        int key = key();
+        long digest = random.nextBoolean() ? random.nextLong() : random.nextInt(100);
+        check.due("row(" + key + ", " + digest + ")", x.row(key, digest), m.row(key, digest));
+    }
+
+    private void asks() {
+        int row = m.about(1) - 1 - (random.nextInt(8) == 0 ? random.nextInt(5) - 2 : 0);
+        int key = key();
+        check.due("asks(" + row + ", " + key + ")", x.asks(row, key), m.asks(row, key));
+    }
+
+    private void compacts() {
+        int n = random.nextInt(6) == 0 ? random.nextInt(1100) - 20 : 1 + random.nextInt(12);
+        check.due("compact(" + n + ")", x.compact(n), m.compact(n));
+    }
+
+    private void locks() {
+        int user = random.nextInt(20) == 0 ? random.nextInt(12) - 2 : random.nextInt(3);
+        if (random.nextBoolean()) {
+            check.due("lock(" + user + ")", x.lock(user), m.lock(user));
+        } else {
+            check.due("dead(" + user + ")", x.dead(user), m.dead(user));
+        }
+    }
+
+    private void cuts() {
+        int keep = random.nextInt(4) == 0 ? 64 : random.nextInt(70) - 2;
+        int tear = random.nextInt(2) == 0 ? random.nextInt(20) * 32 : random.nextInt(530) - 5;
+        x.cut(keep, tear);
+        m.cut(keep, tear);
+    }
+
+    private void pokesOrEditions() {
+        if (random.nextInt(5) == 0) {
+            int e = random.nextInt(10) == 0 ? random.nextInt(210) - 4 : 1 + random.nextInt(2);
+            check.due("edition(" + e + ")", x.edition(e), m.edition(e));
+        } else if (pokes) {
+            int bytes = 1024 + m.about(8) * 64;
+            int first = random.nextInt(12) == 0 ? 0 : 1024 + Math.max(0, m.about(5)) * m.about(8) * 32;
+            int place = first + random.nextInt(random.nextInt(10) == 0 ? bytes : 512);
+            int mask = random.nextInt(10) == 0 ? random.nextInt(270) - 5 : 1 << random.nextInt(8);
+            check.due("poke(" + place + ", " + mask + ")", x.poke(place, mask), m.poke(place, mask));
+        }
+    }
+
+    private void looks() {
+        int key = key();
+        int i = random.nextInt(8) - 1;
+        int what = random.nextInt(11) - 1;
+        switch (random.nextInt(6)) {
+            case 0 -> check.due("digest(" + key + ")", x.digest(key), m.digest(key));
+            case 1 -> check.due("asked(" + key + ", " + i + ")", x.asked(key, i), m.asked(key, i));
+            case 2 -> check.due("sure(" + key + ")", x.sure(key), m.sure(key));
+            case 3 -> check.due("wrong()", x.wrong(), m.wrong());
+            default -> check.due("about(" + what + ")", x.about(what), m.about(what));
+        }
+    }
+
+    private void sectors() {
+        int n = random.nextInt(3) == 0 ? random.nextInt(42) - 1 : 2 + random.nextInt(4);
+        int i = random.nextInt(3) == 0 ? random.nextInt(12) : random.nextInt(520) - 4;
+        int got = 1000;
+        try {
+            got = x.sector(n, i);
+        } catch (ArrayIndexOutOfBoundsException e) {
+            got = 1000;
+        }
+        check.due("sector(" + n + ", " + i + ")", got, m.sector(n, i));
+    }
+}

@@ -79,15 +79,13 @@ public final class BuildDisk {
         goingEdition = nextEdition;
         wrongAtStart = table.wrongCount();
         fixedEnd = table.end();
-        taken = NONE;
-        unkept.forgetAll();
         changeHeads();
         running = true;
         return table.end() - table.wrongCount();
     }
 
     public int row(int key, long digest) {
-        if (!isKey(key)) {
+        if (!Table.isKey(key)) {
             return NO_SUCH;
         }
         if (!running) {
@@ -106,7 +104,7 @@ public final class BuildDisk {
         if (!running || table.kindAt(row) != KIND_KEY) {
             return NO_ROW;
         }
-        if (!isKey(other)) {
+        if (!Table.isKey(other)) {
             return NO_SUCH;
         }
         if (row != table.end() - 1 || row < fixedEnd || row < taken) {
@@ -152,7 +150,7 @@ public final class BuildDisk {
     }
 
     public long digest(int key) {
-        if (!running || !isKey(key)) {
+        if (!running || !Table.isKey(key)) {
             return 0L;
         }
         if (unkept.has(key)) {
@@ -163,7 +161,7 @@ public final class BuildDisk {
     }
 
     public int asked(int key, int i) {
-        if (!running || !isKey(key) || unkept.has(key)) {
+        if (!running || !Table.isKey(key) || unkept.has(key)) {
             return NONE;
         }
         int place = table.latest(key);
@@ -174,7 +172,7 @@ public final class BuildDisk {
     }
 
     public boolean sure(int key) {
-        if (!running || !isKey(key)) {
+        if (!running || !Table.isKey(key)) {
             return false;
         }
         if (unkept.has(key)) {
@@ -204,7 +202,7 @@ public final class BuildDisk {
     }
 
     public int lock(int user) {
-        if (!isUser(user)) {
+        if (!Table.isUser(user)) {
             return NO_SUCH;
         }
         if (!running) {
@@ -218,7 +216,7 @@ public final class BuildDisk {
     }
 
     public int dead(int user) {
-        if (!isUser(user)) {
+        if (!Table.isUser(user)) {
             return NO_SUCH;
         }
         if (!running) {
@@ -267,14 +265,6 @@ public final class BuildDisk {
             default:
                 return NONE;
         }
-    }
-
-    private static boolean isKey(int key) {
-        return key >= 0 && key < KEYS;
-    }
-
-    private static boolean isUser(int user) {
-        return user >= 0 && user < USERS;
     }
 
     private boolean fitsEdition(long edition) {
@@ -576,8 +566,14 @@ public final class BuildDisk {
             askKeys = new int[places * MOST_ASKS];
             digests = new long[places];
             latestPlaces = new int[KEYS];
-            lockPlace = NONE;
-            lastWrong = NONE;
+        }
+
+        static boolean isKey(int key) {
+            return key >= 0 && key < KEYS;
+        }
+
+        static boolean isUser(int user) {
+            return user >= 0 && user < USERS;
         }
 
         int places() {

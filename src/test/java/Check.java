@@ -30,9 +30,14 @@ final class Check {
         try {
             x.sector(n, i);
         } catch (ArrayIndexOutOfBoundsException e) {
-            thrown = 1;
+            thrown = fromMachine(e) ? 2 : 1;
         }
-        due("sector(" + n + ", " + i + ") throws", thrown, 1);
+        due("sector(" + n + ", " + i + ") throws (2: the machine did)", thrown, 1);
+    }
+
+    /** The machine's own exceptions of this class say which index it was. */
+    private static boolean fromMachine(ArrayIndexOutOfBoundsException e) {
+        return e.getMessage() != null && e.getMessage().startsWith("Index ");
     }
 
     boolean anyWrong() {

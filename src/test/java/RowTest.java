@@ -276,6 +276,7 @@ public final class RowTest {
         x.cut(100, 0);
         check.due("digest(0) when cut", x.digest(0), 0);
         x.start();
+        check.due("about(3)", x.about(3), 0);
         check.due("digest(0)", x.digest(0), 15);
         check.due("digest(5)", x.digest(5), 0);
     }

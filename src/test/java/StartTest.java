@@ -20,6 +20,8 @@ public final class StartTest {
         wrongPlaces();
         oddSectors();
         startBegunAgain();
+        startFromLess();
+        startFromLocks();
         check.end();
     }
 
@@ -250,7 +252,7 @@ public final class StartTest {
     private static void placesThatHaveRows() {
         check.about("promise 2, what has a row");
         int[] oddTail = Forge.row(3, 1, 9, 5, 8);
-        oddTail[5] = 200;
+        oddTail[4] = 200;
         oddTail[12] = 3;
         oddTail[26] = 1;
         int[][] rows = {Forge.row(3, 1, 0, Long.MIN_VALUE), Forge.row(3, 1, 63, -1, 63, 0, 1, 1, 63, 63),
@@ -337,5 +339,60 @@ public final class StartTest {
                 }
             }
         }
+    }
+
+    private static void startFromLess() {
+        check.about("promise 2, nothing of an earlier run is left");
+        BuildDisk x = new BuildDisk(4);
+        x.start();
+        x.compact(2);
+        x.sync();
+        check.due("about(5)", x.about(5), 1);
+        for (int i = 0; i < 5; i++) {
+            x.row(0, 7);
+            x.asks(i, 9);
+        }
+        x.lock(4);
+        x.cut(0, 0);
+        check.due("start()", x.start(), 0);
+        check.due("about(1)", x.about(1), 0);
+        check.due("about(4)", x.about(4), -1);
+        check.due("digest(0)", x.digest(0), 0);
+        check.due("asks(0, 1)", x.asks(0, 1), -1);
+        check.due("row(3, 3)", x.row(3, 3), 0);
+        check.due("asked(3, 0)", x.asked(3, 0), -1);
+        check.due("asks(1, 1)", x.asks(1, 1), -1);
+        check.due("asks(0, 1)", x.asks(0, 1), 1);
+        x.cut(0, 0);
+        x.poke(0, 1);
+        x.poke(512, 1);
+        check.due("start() without a head", x.start(), 0);
+        check.due("about(5)", x.about(5), 0);
+        check.due("about(6)", x.about(6), 2);
+        check.due("about(1)", x.about(1), 0);
+        check.due("digest(3)", x.digest(3), 0);
+    }
+
+    private static void startFromLocks() {
+        check.about("promise 2, asks and locks read");
+        BuildDisk x = withHead();
+        Forge.put(x, 1024, Forge.row(0, 1, 0, 11, 33, 34, 35, 36, 37, 38));
+        Forge.put(x, 1024 + 32, Forge.row(1, 2, 6, 0));
+        check.due("start()", x.start(), 2);
+        for (int i = 0; i < 6; i++) {
+            check.due("asked(0, " + i + ")", x.asked(0, i), 33 + i);
+        }
+        check.due("digest(0)", x.digest(0), 11);
+        check.due("about(4)", x.about(4), 6);
+        x.cut(0, 0);
+        Forge.change(x, 1024 + 32, Forge.row(1, 2, 6, 0), Forge.row(1, 3, 6, 0));
+        x.start();
+        check.due("about(4)", x.about(4), -1);
+        check.due("lock(5)", x.lock(5), 1);
+        check.due("row(0, 5)", x.row(0, 5), 3);
+        check.due("asked(0, 0)", x.asked(0, 0), -1);
+        x.compact(1000);
+        check.due("about(1)", x.about(1), 2);
+        check.due("asks(2, 1)", x.asks(2, 1), -1);
     }
 }

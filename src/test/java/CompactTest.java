@@ -17,13 +17,6 @@ public final class CompactTest {
         check.end();
     }
 
-    private static BuildDisk running(int sectors) {
-        BuildDisk x = new BuildDisk(sectors);
-        x.start();
-        x.sync();
-        return x;
-    }
-
     private static void wrongInputs() {
         check.about("promise 6, wrong inputs");
         BuildDisk x = new BuildDisk(4);
@@ -43,7 +36,7 @@ public final class CompactTest {
 
     private static void steps() {
         check.about("promise 6, steps");
-        BuildDisk x = running(6);
+        BuildDisk x = Forge.running(6);
         x.row(1, 1);
         x.row(2, 2);
         check.due("about(7)", x.about(7), -1);
@@ -68,7 +61,7 @@ public final class CompactTest {
 
     private static void writesOfEachStep() {
         check.about("promise 6, writes");
-        BuildDisk x = running(8);
+        BuildDisk x = Forge.running(8);
         x.poke(5 * 512 + 3, 9);
         x.poke(6 * 512 + 511, 9);
         x.poke(7 * 512, 9);
@@ -106,7 +99,7 @@ public final class CompactTest {
 
     private static void whatIsCopied() {
         check.about("promise 6, what is copied");
-        BuildDisk x = running(6);
+        BuildDisk x = Forge.running(6);
         x.row(1, 1);
         x.lock(1);
         x.row(2, 2);
@@ -137,7 +130,7 @@ public final class CompactTest {
 
     private static void wrongPlacesBehind() {
         check.about("promise 6, wrong places");
-        BuildDisk x = running(6);
+        BuildDisk x = Forge.running(6);
         x.row(1, 1);
         x.lock(5);
         x.row(2, 2);
@@ -167,7 +160,7 @@ public final class CompactTest {
 
     private static void besideRunning() {
         check.about("promise 6, beside all else");
-        BuildDisk x = running(6);
+        BuildDisk x = Forge.running(6);
         x.row(1, 1);
         x.row(2, 2);
         x.compact(3);
@@ -189,7 +182,7 @@ public final class CompactTest {
 
     private static void rowsKeptTwice() {
         check.about("promise 6, a key kept anew when taken");
-        BuildDisk x = running(6);
+        BuildDisk x = Forge.running(6);
         x.row(1, 1);
         x.lock(1);
         x.compact(3);
@@ -210,7 +203,7 @@ public final class CompactTest {
 
     private static void backAndForth() {
         check.about("promise 6, back and forth");
-        BuildDisk x = running(4);
+        BuildDisk x = Forge.running(4);
         for (int i = 0; i < 30; i++) {
             x.row(i % 3, i);
             x.compact(1000);
@@ -229,7 +222,7 @@ public final class CompactTest {
         for (int steps = 1; steps <= 8; steps++) {
             for (int keep = 0; keep < 10; keep++) {
                 for (int tear = 0; tear <= 512; tear += 64) {
-                    BuildDisk x = running(4);
+                    BuildDisk x = Forge.running(4);
                     for (int i = 0; i < 6; i++) {
                         x.row(i % 4, 100 + i);
                     }
@@ -249,7 +242,7 @@ public final class CompactTest {
 
     private static void fullAreas() {
         check.about("promise 6, a full area");
-        BuildDisk x = running(10);
+        BuildDisk x = Forge.running(10);
         for (int i = 0; i < 64; i++) {
             x.row(i, i);
         }
@@ -264,7 +257,7 @@ public final class CompactTest {
         check.due("about(3)", x.about(3), 1);
         x.sync();
         Forge.dueRow(check, x, 6 * 512 + 63 * 32, Forge.row(63, 1, 63, 63));
-        BuildDisk y = running(40);
+        BuildDisk y = Forge.running(40);
         for (int i = 0; i < 304; i++) {
             y.row(i % 64, i);
         }
@@ -277,7 +270,7 @@ public final class CompactTest {
 
     private static void pokedOtherArea() {
         check.about("promise 6, a poke between its steps");
-        BuildDisk x = running(4);
+        BuildDisk x = Forge.running(4);
         x.row(1, 1);
         x.row(2, 2);
         x.compact(1);

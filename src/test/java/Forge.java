@@ -1,8 +1,16 @@
 import java.util.Arrays;
 
-/** Makes bytes of rows and heads by the document's words alone, and brings them onto a disk by pokes. */
+/** Makes bytes of rows and heads by the document's words alone, brings them onto a disk by pokes, and looks for them there. */
 final class Forge {
     private Forge() {
+    }
+
+    /** A new object, started, with nothing that waits. */
+    static BuildDisk running(int sectors) {
+        BuildDisk x = new BuildDisk(sectors);
+        x.start();
+        x.sync();
+        return x;
     }
 
     static int sum(int[] bytes, int count, int by) {

@@ -21,16 +21,9 @@ public final class RowTest {
         check.end();
     }
 
-    private static BuildDisk running(int sectors) {
-        BuildDisk x = new BuildDisk(sectors);
-        x.start();
-        x.sync();
-        return x;
-    }
-
     private static void rowsAndTheirBytes() {
         check.about("promise 3");
-        BuildDisk x = running(6);
+        BuildDisk x = Forge.running(6);
         long[] digests = {0, -1, Long.MIN_VALUE, Long.MAX_VALUE, 0x0102030405060708L};
         for (int i = 0; i < 20; i++) {
             check.due("row", x.row(i * 3, digests[i % 5]), i);
@@ -72,7 +65,7 @@ public final class RowTest {
 
     private static void fullArea() {
         check.about("promise 3, no place");
-        BuildDisk x = running(4);
+        BuildDisk x = Forge.running(4);
         for (int i = 0; i < 16; i++) {
             check.due("row(9, i)", x.row(9, i), i);
         }
@@ -93,7 +86,7 @@ public final class RowTest {
 
     private static void unkeptUntilKept() {
         check.about("promise 3, unkept until one is kept or the next start");
-        BuildDisk x = running(4);
+        BuildDisk x = Forge.running(4);
         fill(x, 9);
         x.row(9, 99);
         x.row(8, 88);
@@ -113,7 +106,7 @@ public final class RowTest {
 
     private static void asksAndTheirBytes() {
         check.about("promise 4");
-        BuildDisk x = running(4);
+        BuildDisk x = Forge.running(4);
         x.row(1, 5);
         x.row(2, 6);
         int[] keys = {0, 63, 2, 0, 0, 1};
@@ -169,7 +162,7 @@ public final class RowTest {
 
     private static void asksBehindSyncAndStart() {
         check.about("promise 4, behind sync and start");
-        BuildDisk x = running(4);
+        BuildDisk x = Forge.running(4);
         x.row(1, 1);
         check.due("asks(0, 1)", x.asks(0, 1), 1);
         x.sync();
@@ -186,7 +179,7 @@ public final class RowTest {
         }
         x.sync();
         check.due("asks(2, 3) of six", x.asks(2, 3), -3);
-        BuildDisk y = running(8);
+        BuildDisk y = Forge.running(8);
         for (int i = 0; i < 11; i++) {
             y.row(i, 1);
             for (int j = 0; j < 6 && i < 10; j++) {
@@ -199,7 +192,7 @@ public final class RowTest {
 
     private static void asksOfTakenAndCopied() {
         check.about("promise 4, taken and copied");
-        BuildDisk x = running(4);
+        BuildDisk x = Forge.running(4);
         x.row(1, 1);
         x.row(2, 2);
         x.compact(2);
@@ -215,7 +208,7 @@ public final class RowTest {
         check.due("asks(3, 5)", x.asks(3, 5), 1);
         check.due("asked(2, 0)", x.asked(2, 0), 5);
         check.due("asked(3, 0)", x.asked(3, 0), 5);
-        BuildDisk y = running(4);
+        BuildDisk y = Forge.running(4);
         for (int i = 0; i < 10; i++) {
             y.row(1, i);
         }
@@ -227,7 +220,7 @@ public final class RowTest {
 
     private static void asksAboveAPokedRow() {
         check.about("promise 4, the row is written as it is in mind, all else as it is on the disk");
-        BuildDisk x = running(40);
+        BuildDisk x = Forge.running(40);
         for (int i = 0; i < 60; i++) {
             x.row(i, i);
         }
@@ -356,7 +349,7 @@ public final class RowTest {
 
     private static void sureWithWrongPlaces() {
         check.about("promise 10, wrong places");
-        BuildDisk x = running(4);
+        BuildDisk x = Forge.running(4);
         x.row(1, 1);
         x.row(2, 2);
         x.row(3, 3);
@@ -380,7 +373,7 @@ public final class RowTest {
 
     private static void sureWithUnkept() {
         check.about("promise 10, unkept");
-        BuildDisk x = running(4);
+        BuildDisk x = Forge.running(4);
         x.row(1, 1);
         x.row(2, 2);
         x.asks(1, 1);

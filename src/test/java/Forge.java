@@ -13,6 +13,21 @@ final class Forge {
         return x;
     }
 
+    /** A new object that is not running, with this head alone on its disk. */
+    static BuildDisk withHead(int sectors, long edition, long sequence, int area) {
+        BuildDisk x = new BuildDisk(sectors);
+        put(x, (int) (sequence % 2) * 512, head(edition, sequence, area));
+        return x;
+    }
+
+    /** Rows of a key, with their places as digests, until there is no place. */
+    static void fill(BuildDisk x, int key) {
+        int places = x.about(8);
+        for (int i = x.about(1); i < places; i++) {
+            x.row(key, i);
+        }
+    }
+
     static int sum(int[] bytes, int count, int by) {
         long s = (by + 1L) & 0xFFFFFFFFL;
         for (int i = 0; i < count; i++) {

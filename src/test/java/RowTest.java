@@ -56,13 +56,6 @@ public final class RowTest {
         check.due("about(2)", x.about(2), 3);
     }
 
-    private static void fill(BuildDisk x, int key) {
-        int places = x.about(8);
-        for (int i = x.about(1); i < places; i++) {
-            x.row(key, i);
-        }
-    }
-
     private static void fullArea() {
         check.about("promise 3, no place");
         BuildDisk x = Forge.running(4);
@@ -87,7 +80,7 @@ public final class RowTest {
     private static void unkeptUntilKept() {
         check.about("promise 3, unkept until one is kept or the next start");
         BuildDisk x = Forge.running(4);
-        fill(x, 9);
+        Forge.fill(x, 9);
         x.row(9, 99);
         x.row(8, 88);
         check.due("compact(1000)", x.compact(1000), 18);
@@ -260,7 +253,7 @@ public final class RowTest {
         for (int key : NO_KEYS) {
             check.due("digest(" + key + ")", x.digest(key), 0);
         }
-        fill(x, 0);
+        Forge.fill(x, 0);
         check.due("digest(0)", x.digest(0), 15);
         x.row(0, -9);
         check.due("digest(0) unkept", x.digest(0), -9);
@@ -300,7 +293,7 @@ public final class RowTest {
         check.due("asked(2, 1)", x.asked(2, 1), -1);
         x.row(1, 2);
         check.due("asked(1, 0) of the latest", x.asked(1, 0), -1);
-        fill(x, 5);
+        Forge.fill(x, 5);
         check.due("asked(2, 0)", x.asked(2, 0), 33);
         x.row(2, 3);
         check.due("asked(2, 0) unkept", x.asked(2, 0), -1);
@@ -377,7 +370,7 @@ public final class RowTest {
         x.row(1, 1);
         x.row(2, 2);
         x.asks(1, 1);
-        fill(x, 3);
+        Forge.fill(x, 3);
         check.due("sure(2)", x.sure(2), true);
         x.row(1, 9);
         check.due("sure(1) unkept", x.sure(1), true);

@@ -244,9 +244,7 @@ public final class StartTest {
     }
 
     private static BuildDisk withHead() {
-        BuildDisk x = new BuildDisk(4);
-        Forge.put(x, 0, Forge.head(1, 2, 0));
-        return x;
+        return Forge.withHead(4, 1, 2, 0);
     }
 
     private static void placesThatHaveRows() {

@@ -159,6 +159,11 @@ public final class EmptyTest {
         Forge.put(x, 1536, Forge.row(0, 1, 3, 33));
         dueEmpty(x, 0, 4, 2);
         check.due("digest(3) of the other area", x.digest(3), 0);
+        x.row(2, 2);
+        x.lock(3);
+        x.cut(0, 0);
+        dueEmpty(x, 0, 4, 2);
+        check.due("digest(2) of a row that did not come", x.digest(2), 0);
     }
 
     private static void areaOfOtherBytes() {

@@ -174,6 +174,12 @@ public final class FullTest {
         check.due("row(63, 1)", x.row(63, 1), -4);
         check.due("about(3)", x.about(3), 64);
         check.due("about(1)", x.about(1), 16);
+        x.cut(64, 0);
+        check.due("start()", x.start(), 16);
+        check.due("about(3)", x.about(3), 0);
+        for (int key = 0; key < 64; key++) {
+            check.due("digest(" + key + ")", x.digest(key), key == 3 ? 15 : key == 1 ? 10 : key == 2 ? 20 : 0);
+        }
     }
 
     private static void lastRowOfAFullAreaAsks() {

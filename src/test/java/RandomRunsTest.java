@@ -5,6 +5,8 @@ public final class RandomRunsTest {
     private static final int RUNS = 4000;
     private static final int CALLS = 512;
     private static final Check check = new Check();
+    private static final int[] WILD = {Integer.MIN_VALUE, Integer.MIN_VALUE + 1, -65536, -512, -256, -2, -1, 64, 255, 256, 512, 1001,
+        65536, 1 << 23, 1 << 30, Integer.MAX_VALUE - 1, Integer.MAX_VALUE};
     private static final int[] SIZES = {4, 4, 4, 5, 6, 7, 8, 10, 12, 20, 39, 40, 41, 2};
 
     private final Random random;
@@ -66,8 +68,13 @@ public final class RandomRunsTest {
         }
     }
 
+    /** Now and then a number that nothing can be done with. */
+    private int orWild(int usual) {
+        return random.nextInt(50) == 0 ? WILD[random.nextInt(WILD.length)] : usual;
+    }
+
     private int key() {
-        return random.nextInt(30) == 0 ? random.nextInt(70) - 3 : random.nextInt(keys);
+        return orWild(random.nextInt(30) == 0 ? random.nextInt(70) - 3 : random.nextInt(keys));
     }
 
     private void starts() {
@@ -81,18 +88,18 @@ public final class RandomRunsTest {
     }
 
     private void asks() {
-        int row = m.about(1) - 1 - (random.nextInt(8) == 0 ? random.nextInt(5) - 2 : 0);
+        int row = orWild(m.about(1) - 1 - (random.nextInt(8) == 0 ? random.nextInt(5) - 2 : 0));
         int key = key();
         check.due("asks(" + row + ", " + key + ")", x.asks(row, key), m.asks(row, key));
     }
 
     private void compacts() {
-        int n = random.nextInt(6) == 0 ? random.nextInt(1100) - 20 : 1 + random.nextInt(12);
+        int n = orWild(random.nextInt(6) == 0 ? random.nextInt(1100) - 20 : 1 + random.nextInt(12));
         check.due("compact(" + n + ")", x.compact(n), m.compact(n));
     }
 
     private void locks() {
-        int user = random.nextInt(20) == 0 ? random.nextInt(12) - 2 : random.nextInt(3);
+        int user = orWild(random.nextInt(20) == 0 ? random.nextInt(12) - 2 : random.nextInt(3));
         if (random.nextBoolean()) {
             check.due("lock(" + user + ")", x.lock(user), m.lock(user));
         } else {
@@ -101,29 +108,29 @@ public final class RandomRunsTest {
     }
 
     private void cuts() {
-        int keep = random.nextInt(4) == 0 ? 64 : random.nextInt(70) - 2;
-        int tear = random.nextInt(2) == 0 ? random.nextInt(20) * 32 : random.nextInt(530) - 5;
+        int keep = orWild(random.nextInt(4) == 0 ? 64 : random.nextInt(70) - 2);
+        int tear = orWild(random.nextInt(2) == 0 ? random.nextInt(20) * 32 : random.nextInt(530) - 5);
         x.cut(keep, tear);
         m.cut(keep, tear);
     }
 
     private void pokesOrEditions() {
         if (random.nextInt(5) == 0) {
-            int e = random.nextInt(10) == 0 ? random.nextInt(210) - 4 : 1 + random.nextInt(2);
+            int e = orWild(random.nextInt(10) == 0 ? random.nextInt(210) - 4 : 1 + random.nextInt(2));
             check.due("edition(" + e + ")", x.edition(e), m.edition(e));
         } else if (pokes) {
             int bytes = 1024 + m.about(8) * 64;
             int first = random.nextInt(12) == 0 ? 0 : 1024 + Math.max(0, m.about(5)) * m.about(8) * 32;
-            int place = first + random.nextInt(random.nextInt(10) == 0 ? bytes : 512);
-            int mask = random.nextInt(10) == 0 ? random.nextInt(270) - 5 : 1 << random.nextInt(8);
+            int place = orWild(first + random.nextInt(random.nextInt(10) == 0 ? bytes : 512));
+            int mask = orWild(random.nextInt(10) == 0 ? random.nextInt(270) - 5 : 1 << random.nextInt(8));
             check.due("poke(" + place + ", " + mask + ")", x.poke(place, mask), m.poke(place, mask));
         }
     }
 
     private void looks() {
         int key = key();
-        int i = random.nextInt(8) - 1;
-        int what = random.nextInt(11) - 1;
+        int i = orWild(random.nextInt(8) - 1);
+        int what = orWild(random.nextInt(11) - 1);
         switch (random.nextInt(6)) {
             case 0 -> check.due("digest(" + key + ")", x.digest(key), m.digest(key));
             case 1 -> check.due("asked(" + key + ", " + i + ")", x.asked(key, i), m.asked(key, i));
@@ -134,8 +141,8 @@ public final class RandomRunsTest {
     }
 
     private void sectors() {
-        int n = random.nextInt(3) == 0 ? random.nextInt(42) - 1 : 2 + random.nextInt(4);
-        int i = random.nextInt(3) == 0 ? random.nextInt(12) : random.nextInt(520) - 4;
+        int n = orWild(random.nextInt(3) == 0 ? random.nextInt(42) - 1 : 2 + random.nextInt(4));
+        int i = orWild(random.nextInt(3) == 0 ? random.nextInt(12) : random.nextInt(520) - 4);
         int got = 1000;
         try {
             got = x.sector(n, i);

@@ -298,7 +298,8 @@ public final class BuildDisk {
     private void changeHeads() {
         for (int i = 0; i < HEAD_SECTORS; i++) {
             sequence++;
-            int at = disk.waitWithZeros(sequence % HEAD_SECTORS);
+            // floorMod, as no bound of calls keeps the sequence of a long used object from its wrap-around
+            int at = disk.waitWithZeros(Math.floorMod(sequence, HEAD_SECTORS));
             Head.write(disk.queue, at, goingEdition, sequence, area);
         }
     }

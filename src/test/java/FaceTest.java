@@ -32,18 +32,21 @@ public final class FaceTest {
         check.about("the face");
         TreeSet<String> found = new TreeSet<>();
         for (Field f : BuildDisk.class.getDeclaredFields()) {
-            if (!Modifier.isPrivate(f.getModifiers())) {
+            if (!Modifier.isPrivate(f.getModifiers()) && !f.isSynthetic()) {
                 found.add(f.toString());
             }
         }
         for (Constructor<?> c : BuildDisk.class.getDeclaredConstructors()) {
-            if (!Modifier.isPrivate(c.getModifiers())) {
+            if (!Modifier.isPrivate(c.getModifiers()) && !c.isSynthetic()) {
                 found.add(c.toString());
             }
         }
         TreeSet<String> open = new TreeSet<>();
         TreeSet<String> hidden = new TreeSet<>();
         for (Method m : BuildDisk.class.getDeclaredMethods()) {
+            if (m.isSynthetic()) {
+                continue;
+            }
             if (Modifier.isPrivate(m.getModifiers())) {
                 hidden.add(m.getName());
             } else {

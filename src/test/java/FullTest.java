@@ -553,6 +553,10 @@ public final class FullTest {
 
     private static void runOverIsNoSync() {
         check.about("promise 4: was there already at the latest sync(): that all come is no sync()");
+        BuildDisk y = waiting(64);
+        check.due("row(9, 9)", y.row(9, 9), 64);
+        check.due("about(2)", y.about(2), 1);
+        check.due("asks(64, 5)", y.asks(64, 5), 1);
         BuildDisk x = waiting(64);
         check.due("compact(1)", x.compact(1), 1);
         check.due("about(2)", x.about(2), 19);

@@ -195,6 +195,13 @@ public final class LimitsTest {
             BuildDisk x = Forge.running(4);
             check.due("lock(" + user + ")", x.lock(user), 1);
             check.due("about(4)", x.about(4), user);
+            for (int other = 0; other < 8; other++) {
+                check.due("lock(" + other + ") when " + user + " has it", x.lock(other), other == user ? 1 : 0);
+                if (other != user) {
+                    check.due("dead(" + other + ") when " + user + " has it", x.dead(other), 0);
+                }
+            }
+            check.due("about(1)", x.about(1), 1);
         }
         BuildDisk x = Forge.running(4);
         for (int user : new int[] {-1, 8, 9, 63, 64, 255, 256, LEAST, MOST}) {

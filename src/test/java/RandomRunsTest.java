@@ -4,6 +4,8 @@ import java.util.Random;
 public final class RandomRunsTest {
     private static final int RUNS = 4000;
     private static final int CALLS = 512;
+    /** More than the dearest action makes: so many pokes bring a row, or a head, onto the disk. */
+    private static final int MOST_POKES = 40;
     private static final Check check = new Check();
     private static final int[] WILD = {Integer.MIN_VALUE, Integer.MIN_VALUE + 1, -65536, -512, -256, -2, -1, 64, 255, 256, 512, 1001,
         65536, 1 << 23, 1 << 30, Integer.MAX_VALUE - 1, Integer.MAX_VALUE};
@@ -14,7 +16,10 @@ public final class RandomRunsTest {
     private final Model m;
     private final int keys;
     private final boolean pokes;
+    /** Whether cuts come soon behind starts, with other editions, and rows and heads are forged. */
+    private final boolean restless;
     private final int syncWeight;
+    private int calls = 0;
 
     private RandomRunsTest(int seed) {
         random = new Random(seed);
@@ -23,6 +28,7 @@ public final class RandomRunsTest {
         m = new Model(size);
         keys = 1 + random.nextInt(64);
         pokes = random.nextInt(3) != 0;
+        restless = random.nextInt(4) == 0;
         syncWeight = random.nextInt(12);
     }
 
@@ -35,11 +41,60 @@ public final class RandomRunsTest {
     }
 
     private void run() {
-        for (int i = 0; i < CALLS && !check.anyWrong(); i++) {
-            if (m.about(0) == 0 && random.nextInt(3) != 0) {
+        while (calls + MOST_POKES < CALLS && !check.anyWrong()) {
+            calls++;
+            if (restless && random.nextInt(4) == 0) {
+                unrest();
+            } else if (m.about(0) == 0 && random.nextInt(3) != 0) {
                 starts();
             } else {
                 call(random.nextInt(100 + syncWeight));
+            }
+        }
+    }
+
+    private void unrest() {
+        if (m.about(0) == 1) {
+            int keep = random.nextInt(4);
+            cut(random.nextInt(4) == 0 ? m.about(2) - keep : keep, random.nextInt(2) * random.nextInt(513));
+        } else if (random.nextInt(3) != 0) {
+            edition(1 + random.nextInt(3));
+        } else if (random.nextInt(3) != 0) {
+            forgeHead();
+        } else {
+            forgeRow();
+        }
+    }
+
+    /** A head that has its sum, and mostly all else that makes it count. */
+    private void forgeHead() {
+        int sector = random.nextInt(2);
+        long near = random.nextInt(12) == 0 ? 1999999990L : random.nextInt(12) == 0 ? 0xFFFFFFF0L : 2 * random.nextInt(10);
+        long sequence = near + 2 * random.nextInt(6) + (random.nextInt(8) == 0 ? 1 - sector : sector);
+        int area = random.nextInt(8) == 0 ? 2 : random.nextInt(2);
+        forge(sector * 512, Forge.head(random.nextInt(4), sequence, area));
+    }
+
+    /** A row that has its sum, and mostly all else that makes it one. */
+    private void forgeRow() {
+        int place = random.nextInt(m.about(8));
+        int kind = random.nextInt(8) == 0 ? random.nextInt(5) : 1 + random.nextInt(3);
+        int[] asks = new int[kind == 1 || random.nextInt(8) == 0 ? random.nextInt(8) : 0];
+        for (int i = 0; i < asks.length; i++) {
+            asks[i] = random.nextInt(16) == 0 ? 64 : random.nextInt(keys);
+        }
+        int name = random.nextInt(kind == 1 ? 65 : 9);
+        long digest = kind == 1 ? random.nextLong() : 0;
+        int byPlace = random.nextInt(8) == 0 ? place ^ 1 : place;
+        forge(1024 + (random.nextInt(2) * m.about(8) + place) * 32, Forge.row(byPlace, kind, name, digest, asks));
+    }
+
+    private void forge(int at, int[] bytes) {
+        for (int i = 0; i < bytes.length; i++) {
+            int mask = (m.sector((at + i) / 512, (at + i) % 512) & 255) ^ bytes[i];
+            if (mask != 0) {
+                calls++;
+                check.due("poke(" + (at + i) + ", " + mask + ")", x.poke(at + i, mask), m.poke(at + i, mask));
             }
         }
     }
@@ -110,14 +165,21 @@ public final class RandomRunsTest {
     private void cuts() {
         int keep = orWild(random.nextInt(4) == 0 ? 64 : random.nextInt(70) - 2);
         int tear = orWild(random.nextInt(2) == 0 ? random.nextInt(20) * 32 : random.nextInt(530) - 5);
+        cut(keep, tear);
+    }
+
+    private void cut(int keep, int tear) {
         x.cut(keep, tear);
         m.cut(keep, tear);
     }
 
+    private void edition(int e) {
+        check.due("edition(" + e + ")", x.edition(e), m.edition(e));
+    }
+
     private void pokesOrEditions() {
         if (random.nextInt(5) == 0) {
-            int e = orWild(random.nextInt(10) == 0 ? random.nextInt(210) - 4 : 1 + random.nextInt(2));
-            check.due("edition(" + e + ")", x.edition(e), m.edition(e));
+            edition(orWild(random.nextInt(10) == 0 ? random.nextInt(210) - 4 : 1 + random.nextInt(2)));
         } else if (pokes) {
             int bytes = 1024 + m.about(8) * 64;
             int first = random.nextInt(12) == 0 ? 0 : 1024 + Math.max(0, m.about(5)) * m.about(8) * 32;

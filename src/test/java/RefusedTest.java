@@ -163,6 +163,14 @@ public final class RefusedTest {
         check.due("edition(8)", x.edition(8), 1);
         check.due("start() by one more", x.start(), 2);
         check.due("about(6)", x.about(6), 6);
+        BuildDisk y = otherEdition(9);
+        check.due("start()", y.start(), -1);
+        check.due("start() again", y.start(), -1);
+        y.poke(100, 1);
+        y.poke(612, 1);
+        check.due("start() when both heads are gone", y.start(), 0);
+        y.sync();
+        check.dueByte(y, 0, 3, 9);
     }
 
     private static void startWhenRunning() {

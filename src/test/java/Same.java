@@ -30,6 +30,7 @@ final class Same {
         compare(check, make, call, refused, "asks and compaction later", Same::laterSteps);
         compare(check, make, call, refused, "a later cut", Same::laterCut);
         compare(check, make, call, refused, "a later start", Same::laterStart);
+        compare(check, make, call, refused, "a later start without a head", Same::laterStartAnew);
         int halves = 2 * (2 + first.about(8) / 8);
         for (int n = 0; n < halves; n++) {
             int half = n;
@@ -116,6 +117,17 @@ final class Same {
         x.cut(0, 0);
         seen.add((long) x.start());
         abouts(x, seen);
+    }
+
+    /** The edition that is set is seen in the heads of a start that finds none. */
+    private static void laterStartAnew(BuildDisk x, List<Long> seen) {
+        x.cut(0, 0);
+        x.poke(100, 1);
+        x.poke(512 + 100, 1);
+        seen.add((long) x.start());
+        seen.add((long) x.sync());
+        abouts(x, seen);
+        heads(x, seen);
     }
 
     private static void heads(BuildDisk x, List<Long> seen) {

@@ -11,7 +11,11 @@ public final class StartTest {
         badHeads();
         headLimits();
         unsummedHeads();
+        headsThatDoNotCount();
         editionsOfHeads();
+        editionOfTheGreaterHead();
+        editionOfAHeadThatDoesNotCount();
+        editionsTorn();
         editionLimits();
         editionWaitsForTheNextStart();
         refusedStartChangesNothing();
@@ -167,6 +171,36 @@ public final class StartTest {
         check.dueByte(x, 0, 200, 0);
     }
 
+    /** A head of area 0 that counts, beside another one: which of the two it goes by. */
+    private static void dueBeside(String what, int sector, long sequence, int[] beside, boolean counts, long greater) {
+        BuildDisk x = new BuildDisk(4);
+        Forge.put(x, (1 - sector) * 512, Forge.head(1, sequence, 0));
+        Forge.put(x, sector * 512, beside);
+        Forge.put(x, 1024, Forge.row(0, 1, 7, 100));
+        Forge.put(x, 1536, Forge.row(0, 1, 8, 100));
+        check.due("start() beside " + what, x.start(), 1);
+        check.due("digest(7) beside " + what, x.digest(7), counts ? 0 : 100);
+        check.due("about(6) beside " + what, x.about(6), (counts ? greater : sequence) + 2);
+    }
+
+    private static void headsThatDoNotCount() {
+        check.about("promise 2: of the HEADS that have their SUM, a SEQUENCE below 2000000000, in its SECTOR, and an AREA 0 or 1, "
+            + "the one with the greater SEQUENCE counts");
+        for (int sector = 0; sector < 2; sector++) {
+            long sequence = 11 - sector;
+            long greater = 20 + sector;
+            dueBeside("a greater head", sector, sequence, Forge.head(1, greater, 1), true, greater);
+            int[] unsummed = Forge.head(1, greater, 1);
+            unsummed[508] ^= 1;
+            dueBeside("one without its sum", sector, sequence, unsummed, false, greater);
+            dueBeside("the sequence 2000000000", sector, sequence, Forge.head(1, 2000000000L + sector, 1), false, greater);
+            dueBeside("a sequence of 32 bits", sector, sequence, Forge.head(1, 0xFFFFFFFEL + sector, 1), false, greater);
+            dueBeside("one in the other's sector", sector, sequence, Forge.head(1, greater + 1, 1), false, greater);
+            dueBeside("the area 2", sector, sequence, Forge.head(1, greater, 2), false, greater);
+            dueBeside("the area 255", sector, sequence, Forge.head(1, greater, 255), false, greater);
+        }
+    }
+
     private static void editionsOfHeads() {
         check.about("promise 2, editions");
         long[][] editions = { // the one that it goes by, that of the head, the answer
@@ -179,6 +213,59 @@ public final class StartTest {
             check.due("start() by edition " + e[0] + " on " + e[1], x.start(), e[2]);
             check.due("about(0)", x.about(0), e[2] == 0 ? 1 : 0);
             check.due("about(6)", x.about(6), e[2] == 0 ? 5 : -1);
+        }
+    }
+
+    private static void editionOfTheGreaterHead() {
+        check.about("promise 2: the one with the greater SEQUENCE counts: if its EDITION is neither the one that it goes by nor one less");
+        for (int sector = 0; sector < 2; sector++) {
+            for (int lesser : new int[] {0, 3, 4, 5, 6, 200}) {
+                for (int greater : new int[] {0, 3, 4, 5, 6, 200}) {
+                    BuildDisk x = new BuildDisk(4);
+                    Forge.put(x, sector * 512, Forge.head(greater, 20 + sector, 1));
+                    Forge.put(x, (1 - sector) * 512, Forge.head(lesser, 11 - sector, 0));
+                    x.edition(5);
+                    boolean fits = greater == 5 || greater == 4;
+                    check.due("start() by 5 on " + greater + " and the lesser " + lesser, x.start(), fits ? 0 : -1);
+                    check.due("about(5)", x.about(5), fits ? 1 : -1);
+                    check.due("about(6)", x.about(6), fits ? 22 + sector : -1);
+                }
+            }
+        }
+    }
+
+    private static void editionOfAHeadThatDoesNotCount() {
+        check.about("promise 2: the EDITION of a HEAD that does not count");
+        int[][] others = {Forge.head(9, 21, 2), Forge.head(9, 22, 1), Forge.head(9, 2000000001L, 1)};
+        for (int[] other : others) {
+            BuildDisk x = new BuildDisk(4);
+            Forge.put(x, 512, other);
+            check.due("start() by 1 without a head", x.start(), 0);
+            check.due("about(6)", x.about(6), 2);
+            BuildDisk y = new BuildDisk(4);
+            Forge.put(y, 0, Forge.head(1, 10, 0));
+            Forge.put(y, 512, other);
+            check.due("start() by 1 beside it", y.start(), 0);
+            check.due("about(6)", y.about(6), 12);
+        }
+    }
+
+    private static void editionsTorn() {
+        check.about("promise 2: HEADS of two EDITIONS, as a cut leaves them");
+        for (int keep = 0; keep <= 2; keep++) {
+            for (int e = 1; e <= 4; e++) {
+                BuildDisk x = new BuildDisk(4);
+                x.start();
+                x.row(1, 11);
+                x.sync();
+                x.edition(2);
+                x.cut(0, 0);
+                x.start();
+                x.cut(keep, 0);
+                x.edition(e);
+                int counts = keep == 0 ? 1 : 2;
+                check.due("start() by " + e + " behind cut(" + keep + ", 0)", x.start(), e == counts || e == counts + 1 ? 1 : -1);
+            }
         }
     }
 

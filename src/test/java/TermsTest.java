@@ -15,6 +15,8 @@ public final class TermsTest {
         latestRowIsOfKindKey();
         lockRowIsTheHighest();
         sureWithoutAWrongPlaceBehind();
+        sureWhoseAskedHasAWrongPlaceBehind();
+        latestRowWithAWrongPlaceBehind();
         sureByTheKeysAhead();
         sureByItself();
         sureByEachAsked();
@@ -223,6 +225,33 @@ public final class TermsTest {
         check.due("sure(2)", z.sure(2), true);
     }
 
+    private static void sureWhoseAskedHasAWrongPlaceBehind() {
+        check.about("SURE: no WRONG PLACE is behind its LATEST ROW: behind that of a KEY that it ASKS there may be one");
+        BuildDisk x = wrongAt(1);
+        x.row(4, 4);
+        x.asks(3, 1);
+        check.due("sure(1)", x.sure(1), false);
+        check.due("sure(4)", x.sure(4), true);
+        x.asks(3, 2);
+        check.due("sure(4) asks the one that was there", x.sure(4), false);
+    }
+
+    private static void latestRowWithAWrongPlaceBehind() {
+        check.about("THE LATEST ROW is that at the highest PLACE, also with a WRONG PLACE behind it");
+        BuildDisk x = Forge.withHead(4, 1, 2, 0);
+        Forge.put(x, 1024, Forge.row(0, 1, 5, 50, 9, 8));
+        Forge.put(x, 1024 + 32, Forge.row(1, 2, 6, 0));
+        Forge.put(x, 1024 + 96, Forge.row(3, 1, 4, 4));
+        check.due("start()", x.start(), 3);
+        check.due("digest(5)", x.digest(5), 50);
+        check.due("asked(5, 0)", x.asked(5, 0), 9);
+        check.due("asked(5, 1)", x.asked(5, 1), 8);
+        check.due("sure(5)", x.sure(5), false);
+        check.due("about(4)", x.about(4), 6);
+        check.due("lock(6)", x.lock(6), 1);
+        check.due("asks(0, 1)", x.asks(0, 1), -3);
+    }
+
     private static void sureByTheKeysAhead() {
         check.about("SURE: each KEY that it ASKS has its LATEST ROW ahead of it");
         BuildDisk x = Forge.running(4);
@@ -258,6 +287,16 @@ public final class TermsTest {
                 x.asks(1, i == j ? 9 : 1);
             }
             check.due("sure(2) with one without a row at " + i, x.sure(2), false);
+        }
+        for (int key = 0; key < 64; key++) {
+            BuildDisk x = Forge.running(4);
+            x.row(key, 1);
+            x.row((key + 1) % 64, 2);
+            x.asks(1, key);
+            check.due("sure(next) asks " + key, x.sure((key + 1) % 64), true);
+            x.row((key + 1) % 64, 3);
+            x.asks(2, (key + 2) % 64);
+            check.due("sure(next) asks one without a row", x.sure((key + 1) % 64), false);
         }
     }
 
@@ -454,6 +493,12 @@ public final class TermsTest {
         check.due("about(1)", x.about(1), 2);
         check.due("digest(1)", x.digest(1), 11);
         check.due("wrong() of the latest start", x.wrong(), 1);
+        BuildDisk y = wrongAt(0);
+        y.compact(1000);
+        check.due("sure(2) behind compaction", y.sure(2), true);
+        check.due("sure(3) behind compaction", y.sure(3), true);
+        check.due("compact(1000)", y.compact(1000), 4);
+        check.due("about(1)", y.about(1), 2);
     }
 
     private static void cutEndsCompaction() {

@@ -123,7 +123,7 @@ public final class BuildDisk {
             return NOT_NOW;
         }
         fixedEnd = table.end();
-        return disk.bringAll();
+        return disk.bring(Disk.MOST_WAITING, 0);
     }
 
     public int compact(int n) {
@@ -143,7 +143,7 @@ public final class BuildDisk {
     }
 
     public void cut(int keep, int tear) {
-        disk.bringSome(Math.max(keep, 0), Math.min(Math.max(tear, 0), SECTOR_BYTES));
+        disk.bring(Math.max(keep, 0), Math.min(Math.max(tear, 0), SECTOR_BYTES));
         running = false;
         taken = NONE;
         unkept.forgetAll();
@@ -474,7 +474,7 @@ public final class BuildDisk {
         /** Makes a write of 0s wait, and answers where in the queue its bytes begin. */
         int waitWithZeros(int target) {
             if (waitCount >= MOST_WAITING) {
-                bringAll();
+                bring(MOST_WAITING, 0);
             }
             int begin = waitCount * SECTOR_BYTES;
             for (int i = 0; i < SECTOR_BYTES; i++) {
@@ -486,7 +486,7 @@ public final class BuildDisk {
         /** Likewise, with what the sector will have when all that waits has come. */
         int waitAsItWillBe(int target) {
             if (waitCount >= MOST_WAITING) {
-                bringAll();
+                bring(MOST_WAITING, 0);
             }
             int begin = waitCount * SECTOR_BYTES;
             int latest = latestWrite(target);
@@ -498,25 +498,15 @@ public final class BuildDisk {
             return addTarget(target);
         }
 
-        int bringAll() {
-            int count = waitCount;
-            for (int i = 0; i < count; i++) {
-                bring(i, SECTOR_BYTES);
+        /** Brings the first writes and a part of the next one, and answers how many came whole; the others are lost. */
+        int bring(int whole, int tornBytes) {
+            int count = Math.min(whole, waitCount);
+            for (int i = 0; i <= count && i < waitCount; i++) {
+                int length = i < count ? SECTOR_BYTES : tornBytes;
+                System.arraycopy(queue, i * SECTOR_BYTES, bytes, targets[i] * SECTOR_BYTES, length);
             }
             waitCount = 0;
             return count;
-        }
-
-        /** Brings the first writes and a part of the next one; the others are lost. */
-        void bringSome(int whole, int tornBytes) {
-            int count = Math.min(whole, waitCount);
-            for (int i = 0; i < count; i++) {
-                bring(i, SECTOR_BYTES);
-            }
-            if (count < waitCount) {
-                bring(count, tornBytes);
-            }
-            waitCount = 0;
         }
 
         private int addTarget(int target) {
@@ -533,10 +523,6 @@ public final class BuildDisk {
                 }
             }
             return NONE;
-        }
-
-        private void bring(int write, int count) {
-            System.arraycopy(queue, write * SECTOR_BYTES, bytes, targets[write] * SECTOR_BYTES, count);
         }
     }
 

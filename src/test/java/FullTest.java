@@ -302,6 +302,9 @@ public final class FullTest {
         x.compact(10);
         check.due("row(8, 8)", x.row(8, 8), 15);
         check.due("row(8, 9)", x.row(8, 9), -4);
+        check.due("about(3)", x.about(3), 1);
+        check.due("digest(8)", x.digest(8), 9);
+        check.due("sure(8)", x.sure(8), true);
         check.due("compact(1000)", x.compact(1000), 8);
         check.due("about(1)", x.about(1), 2);
         check.due("digest(8)", x.digest(8), 9);

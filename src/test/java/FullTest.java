@@ -20,6 +20,7 @@ public final class FullTest {
         compactionMakesPlaces();
         compactionOfAllLatestRows();
         fullWhileCompactionIsUnderWay();
+        askedOverAWholeArea();
         sixKeysAsked();
         sixTimesOneKey();
         sixReadAtAStart();
@@ -310,6 +311,25 @@ public final class FullTest {
         check.due("digest(8)", x.digest(8), 9);
         check.due("row(8, 10)", x.row(8, 10), 2);
         check.due("digest(8)", x.digest(8), 10);
+    }
+
+    private static void askedOverAWholeArea() {
+        check.about("SURE: each KEY that it ASKS has its LATEST ROW ahead of it, be it the first of a full AREA and it the last");
+        BuildDisk x = Forge.running(40);
+        x.row(1, 10);
+        for (int i = 1; i < 303; i++) {
+            x.row(3, i);
+        }
+        check.due("row(2, 20)", x.row(2, 20), 303);
+        check.due("asks(303, 1)", x.asks(303, 1), 1);
+        check.due("asks(303, 3)", x.asks(303, 3), 2);
+        check.due("sure(2)", x.sure(2), true);
+        check.due("compact(1000)", x.compact(1000), 306);
+        check.due("about(1)", x.about(1), 3);
+        check.due("sure(2) copied", x.sure(2), true);
+        x.cut(64, 0);
+        check.due("start()", x.start(), 3);
+        check.due("sure(2) started", x.sure(2), true);
     }
 
     private static void sixKeysAsked() {
